@@ -1043,6 +1043,8 @@ public final class NinthWave {
         int length;
         private int place;
         private int flaw;
+        private int first;
+        private int second;
 
         boolean isFull() {
             return length >= MOST;
@@ -1081,15 +1083,12 @@ public final class NinthWave {
         }
 
         private boolean readBar(Chart chart) {
-            if (!passes('b')) {
+            if (!passes('b') || !readPair(60, 9)) {
                 return false;
             }
-            chart.depth = number(60);
-            if (!passes(',')) {
-                return false;
-            }
-            chart.ebb = number(9);
-            return passes(';');
+            chart.depth = first;
+            chart.ebb = second;
+            return true;
         }
 
         private boolean readSwells(Chart chart) {
@@ -1114,14 +1113,11 @@ public final class NinthWave {
                     return fails(NO_ROOM);
                 }
                 place++;
-                chart.sees[k] = number(7);
-                if (!passes(',')) {
+                if (!readPair(7, 8)) {
                     return false;
                 }
-                scene.counts[k] = number(8);
-                if (!passes(';')) {
-                    return false;
-                }
+                chart.sees[k] = first;
+                scene.counts[k] = second;
                 chart.towers = k + 1;
             }
             return chart.towers > 0 || fails(MISPLACED);
@@ -1133,17 +1129,24 @@ public final class NinthWave {
                     return fails(NO_ROOM);
                 }
                 place++;
-                chart.draughts[k] = number(99);
-                if (!passes(',')) {
+                if (!readPair(99, chart.towers - 1)) {
                     return false;
                 }
-                scene.heeded[k] = number(chart.towers - 1);
-                if (!passes(';')) {
-                    return false;
-                }
+                chart.draughts[k] = first;
+                scene.heeded[k] = second;
                 chart.ships = k + 1;
             }
             return true;
+        }
+
+        /** Two numbers and their signs, behind a letter; they are left as first and second. */
+        private boolean readPair(int mostOfFirst, int mostOfSecond) {
+            first = number(mostOfFirst);
+            if (!passes(',')) {
+                return false;
+            }
+            second = number(mostOfSecond);
+            return passes(';');
         }
 
         private boolean isAtEnd() {
