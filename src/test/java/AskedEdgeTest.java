@@ -78,11 +78,13 @@ public final class AskedEdgeTest {
         anotherSea();
     }
 
+    private static final String SECOND = "b60,0;" + "d30;".repeat(20) + "t0,1;t0,2;t0,3;h1,0;h2,1;h3,2;h4,0;h5,1;h6,2;";
+
     private static void anotherSea() {
         Edges.sentence("33 restore", "The SEA is as an IMAGE kept it, also if another one stands");
         NinthWave x = Edges.told("b9,9;m9;t7,7;h9,0;");
         x.image(0);
-        Edges.read(x, "b60,0;" + "d30;".repeat(20) + "t0,1;t0,2;t0,3;h1,0;h2,1;h3,2;h4,0;h5,1;h6,2;");
+        Edges.read(x, SECOND);
         x.image(1);
         Edges.due("restore(0)", x.restore(0), 1);
         int[][] first = {{1, 1}, {2, 1}, {3, 1}, {6, 1}};
@@ -95,6 +97,13 @@ public final class AskedEdgeTest {
         Edges.due("no second swell", x.kind(1), Edges.BAD);
         Edges.due("no second tower", x.tower(1, 0), Edges.BAD);
         Edges.due("no second ship", x.ship(1, 0), Edges.BAD);
+        Edges.due("kept in the other, too", x.image(1), 1);
+        Edges.due("restore(1)", x.restore(1), 1);
+        Edges.due("the first again", x.count(1), 1);
+        Edges.due("its WATER", x.wave(2, 2), 12);
+        Edges.read(x, SECOND);
+        x.image(1);
+        x.restore(0);
         Edges.due("restore(1)", x.restore(1), 1);
         for (int[] c : second) {
             Edges.due("count(" + c[0] + ") of the second", x.count(c[0]), c[1]);

@@ -224,6 +224,11 @@ public final class ForetoldEdgeTest {
         dueOrder("two towers", bar + "h25,0;h26,1;h27,0;h27,1;", 2, 4, 4, 2, 0, 3, 1);
         dueOrder("a call more than ships", bar + "h9,0;", 2, 60, 1, 0);
         dueOrder("none is called", bar + "h5,0;h6,0;", 12, 9, 0, 0, 1);
+        dueOrder("ships more than calls, that need no water", bar + "h0,0;h0,0;h0,0;", 2, 4, 2, 0, 1, 2);
+        // By LAW 2 waves 1, 3 .. 11 have WATER 29 27 25 23 21 20.
+        String six = "b20,9;p9;t0,0;";
+        dueOrder("the first of all orders", six + "h29,0;h27,0;h25,0;h23,0;h21,0;h20,0;", 2, 12, 6, 0, 1, 2, 3, 4, 5);
+        dueOrder("the last of all orders", six + "h20,0;h21,0;h23,0;h25,0;h27,0;h29,0;", 2, 12, 6, 5, 4, 3, 2, 1, 0);
         NinthWave x = Edges.told(bar + "h90,0;h9,0;h25,0;h23,0;");
         x.law(2);
         x.change(0, 1);

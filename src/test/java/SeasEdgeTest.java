@@ -6,12 +6,7 @@ public final class SeasEdgeTest {
 
     /** A busy object with no byte on the tape, whose latest fault had a number. */
     private static Edges.Begin withFault(int number) {
-        return () -> {
-            NinthWave x = Edges.BUSY.make();
-            x.sea();
-            Edges.read(x, FAULTY[number]);
-            return x;
-        };
+        return () -> Edges.busy(FAULTY[number], "");
     }
 
     private static final Edges.Begin[] FAULTED = {null, withFault(1), withFault(2), withFault(3)};
@@ -340,12 +335,43 @@ public final class SeasEdgeTest {
             y.law(2);
             y.change(0, 5);
             y.waves(20);
+            // What is foretold by other laws, behind other waves, leaves nothing either.
+            y.laws(200, 0);
+            y.heed(0);
             Edges.read(y, text);
             return y;
         };
         Edges.dueSame("the one before leaves nothing", twice, fresh);
+        NinthWave smaller = Edges.told(text);
+        smaller.laws(200, 0);
+        Edges.due("one swell", Edges.read(smaller, "b1,1;l1;t1,1;"), 1);
+        Edges.due("one tower", smaller.count(2), 1);
+        Edges.due("no ship", smaller.count(3), 0);
+        Edges.due("none waits", smaller.count(6), 0);
+        Edges.due("wave 0", smaller.count(4), 0);
         Edges.sentence("7 sea", "-1000100 less the place of a FAULT: all stays");
         Edges.refused(FAULTED[2], "sea() of a fault behind ships", y -> Edges.read(y, text + "h99,3;"), -1000100 - 44);
+        foretoldBehindFault();
+    }
+
+    /** What is foretold of a sea is foretold behind each fault of another text, too. */
+    private static void foretoldBehindFault() {
+        String other = "b1,9;m30;l30;m29;t6,0;t6,1;t6,2;h99,2;h98,1;h97,0;h96,2;h95,1;h94,0;";
+        for (int n = 0; n <= other.length(); n++) {
+            NinthWave x = Edges.told("b40,2;p9;s9;d9;t1,3;t0,7;h40,0;h41,1;h42,0;");
+            Edges.fill(x, 0, 2, 3, 10);
+            Edges.read(x, other.substring(0, n) + "?");
+            // Tower 0 counts 1 2 1 from 3 on: 4 6 7 | 8 10 11 | 12 14 15 | 16 18 19; tower 1 calls waves 1, 10, 19.
+            Edges.due("called(0, 0)", x.called(0, 0), 4);
+            Edges.due("called(0, 1)", x.called(0, 1), 10);
+            Edges.due("called(1, 2)", x.called(1, 2), 19);
+            Edges.due("the log of wave 3: COUNT 4 by 1 2 1, COUNT 5 by 1 1 1", x.log(0, 0, 1, 0), 4 + 4);
+            Edges.due("the first of them", x.log(0, 0, 1, 1), 33);
+            // SEED 1: d 13, m 29, l, l, p 29: tower 1, with COUNT 7, calls the fifth, by WATER 69; tower 0 not yet.
+            Edges.due("season(4, 1, 0)", x.season(4, 1, 0), 0);
+            Edges.due("season(5, 1, 0)", x.season(5, 1, 0), 1);
+            Edges.due("season(5, 1, 1)", x.season(5, 1, 1), 0);
+        }
     }
 
     private static void fault() {

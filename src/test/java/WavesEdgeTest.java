@@ -235,6 +235,14 @@ public final class WavesEdgeTest {
         Edges.bad(one, "change(0, #) of one ship", (x, n) -> x.change(0, n), 0, 1, -1);
         Edges.bad(() -> Edges.told("b0,0;p0;t0,0;"), "change(#, 1) of none", (x, n) -> x.change(n, 1), 0, 1, -1);
         Edges.bad(Edges.NO_SEA, "change(#, 1)", (x, n) -> x.change(n, 1), 0, 2);
+        int[] order = {3, 1, 2, 0, 4, 5};
+        for (int a = 0; a < 6; a++) {
+            for (int b = 0; b < 6; b++) {
+                if (a != b) {
+                    dueChanged(a, b, order);
+                }
+            }
+        }
         NinthWave x = Edges.told("b0,0;p0;t0,0;h1,0;h2,0;h3,0;h4,0;h5,0;h6,0;");
         Edges.due("the first to the last place", x.change(0, 5), 5);
         Edges.due("the last to the first place", x.ship(5, 2), 0);
@@ -244,6 +252,16 @@ public final class WavesEdgeTest {
         Edges.due("changed", x.ship(0, 2), 5);
         for (int s = 1; s < 5; s++) {
             Edges.due("the others", x.ship(s, 2), s);
+        }
+    }
+
+    /** In BUSY ship 0 is in place 3, ship 3 in place 0; behind a change two have changed places, no other. */
+    private static void dueChanged(int a, int b, int[] places) {
+        NinthWave x = Edges.BUSY.make();
+        Edges.due("change(" + a + ", " + b + ")", x.change(a, b), places[b]);
+        for (int s = 0; s < 6; s++) {
+            int place = s == a ? places[b] : s == b ? places[a] : places[s];
+            Edges.due("the place of " + s + " behind change(" + a + ", " + b + ")", x.ship(s, 2), place);
         }
     }
 
@@ -267,6 +285,8 @@ public final class WavesEdgeTest {
         x.undo();
         Edges.due("waits again", x.heeds(0, 1), 0);
         Edges.due("heeds 1", x.ship(0, 1), 1);
+        Edges.due("which it heeded since", x.heeds(0, 0), 1);
+        Edges.due("undone", x.undo(), 1);
         Edges.due("undone", x.undo(), 0);
         Edges.due("heeds 0", x.ship(0, 1), 0);
     }
@@ -422,6 +442,15 @@ public final class WavesEdgeTest {
         Edges.bounds(Edges.BUSY, "tower(1, #)", (x, n) -> x.tower(1, n), 0, 2, 2, 2);
         Edges.bounds(() -> Edges.told("b0,0;p0;t3,0;"), "tower(#, 0)", (x, n) -> x.tower(n, 0), 0, 3, 0, 3);
         Edges.bad(Edges.NO_SEA, "tower(#, 0)", (x, n) -> x.tower(n, 0), 0, 2);
+        Edges.sentence("16 tower", "2 how many SHIPS that wait heed it");
+        NinthWave y = Edges.told("b9,0;p0;t0,8;t0,7;t0,0;h9,0;h9,1;h9,0;h9,0;h9,0;h10,1;");
+        int[][] many = {{4, 2, 0}, {3, 2, 0}, {3, 1, 0}};
+        for (int w = 0; w < 3; w++) {
+            for (int t = 0; t < 3; t++) {
+                Edges.due("tower(" + t + ", 2) ahead of wave " + w, y.tower(t, 2), many[w][t]);
+            }
+            y.waves(1);
+        }
         int[][] all = {{5, 11, 1}, {2, 13, 2}, {0, 11, 0}};
         for (int t = 0; t < 3; t++) {
             for (int what = 0; what <= 2; what++) {

@@ -35,17 +35,19 @@ final class Edges {
      * Behind five, by LAW 7, COUNTS are 11, 13, 11, and the order is 3 1 2 0 4 5, of which 5 heeds tower 1 like 4.
      */
     private static final String TEXT = "b30,4;p12;s9;d7;l8;m11;p3;t5,6;t2,7;t0,8;h33,0;h40,1;h39,2;h28,0;h24,1;h44,2;";
+    /** A text whose only fault, a 2, is at its end: nothing that it tells may be found in the sea that stands. */
+    private static final String UNREAD = "b9,9;m9;l1;t7,7;h9,0;h8,9;";
     /** Sea, acts, an image, rows, a tape, a trace, a fault; status() is 2. */
-    static final Begin BUSY = Edges::busy;
+    static final Begin BUSY = () -> busy(UNREAD, "b4");
     /** The same, but status() is 0. */
     static final Begin CALM = () -> {
-        NinthWave x = busy();
+        NinthWave x = BUSY.make();
         x.set(0, 0, 3);
         return x;
     };
     /** The same, with 24 acts and some that are forgotten. */
     static final Begin ACTED = () -> {
-        NinthWave x = busy();
+        NinthWave x = BUSY.make();
         for (int k = 0; k < 20; k++) {
             x.slip(k % 3, 1 + k % 2);
         }
@@ -54,8 +56,8 @@ final class Edges {
     /** All but a sea. */
     static final Begin NO_SEA = () -> {
         NinthWave x = new NinthWave();
-        read(x, "b61");
-        furnish(x);
+        read(x, UNREAD);
+        furnish(x, "b4");
         return x;
     };
     static final Begin BLANK = NinthWave::new;
@@ -181,10 +183,11 @@ final class Edges {
         return all;
     }
 
-    private static NinthWave busy() {
+    /** BUSY with another text that has a fault, another tape. */
+    static NinthWave busy(String faulty, String tape) {
         NinthWave x = new NinthWave();
-        read(x, "b61");
         read(x, TEXT);
+        read(x, faulty);
         x.waves(3);
         x.image(0);
         x.law(7);
@@ -193,12 +196,12 @@ final class Edges {
         x.heeds(5, 1);
         x.waves(2);
         x.ask(1, 0);
-        furnish(x);
+        furnish(x, tape);
         return x;
     }
 
-    /** Rows 0, 5 of bytes, 1 of shorts, 2, 3, 7 of ints, 4 and 6 missing; two bytes on the tape; a finding. */
-    private static void furnish(NinthWave x) {
+    /** Rows 0, 5 of bytes, 1 of shorts, 2, 3, 7 of ints, 4 and 6 missing; bytes on the tape; a finding. */
+    private static void furnish(NinthWave x, String tape) {
         fill(x, 0, 0, 3, 4, 5);
         fill(x, 1, 1, 6, 7, 8, 9);
         x.row(2, 2, 40);
@@ -208,20 +211,21 @@ final class Edges {
         fill(x, 3, 2, 8, 7, 6);
         x.row(5, 0, 0);
         fill(x, 7, 2, 3, 11);
-        x.feed('b');
-        x.feed('4');
+        for (int i = 0; i < tape.length(); i++) {
+            x.feed(tape.charAt(i));
+        }
         x.set(0, 3, 9);
     }
 
     private static void lookAtSea(NinthWave x, List<Integer> seen) {
+        for (int i = 0; i <= 16; i++) {
+            seen.add(x.trace(i));
+        }
         for (int what = 0; what <= 8; what++) {
             seen.add(x.count(what));
         }
         seen.add(x.fault());
         lookAtShips(x, seen);
-        for (int i = 0; i <= 16; i++) {
-            seen.add(x.trace(i));
-        }
     }
 
     private static void lookAtShips(NinthWave x, List<Integer> seen) {
