@@ -15,6 +15,7 @@ import java.util.regex.Pattern;
 /** The public face as the document has it, and those rules of LANGUAGE.md that can be seen without a parser. */
 public final class FaceTest {
     private static final Path SOURCE = Path.of("src/main/java/NinthWave.java");
+    private static final Path DOCUMENT = Path.of("../shared/DOC.md");
     // Each method with how many ints it takes; each answers an int.
     private static final String FACE = "row3 set3 copy5 drop1 feed1 sea0 fault0 waves1 slip2 law1 change2 heeds2 undo0 ship2 "
             + "tower2 wave2 ahead2 shipAhead3 towerAhead2 called2 fit2 highest2 order2 laws2 bribe2 heed1 agreed2 log4 "
@@ -22,6 +23,8 @@ public final class FaceTest {
     private static final String[] RULED_OUT = {"throw", "throws", "try", "catch", "finally", "synchronized", "assert",
         "import", "package", "protected", "lambda", "native", "volatile", "transient", "Object", "equals", "hashCode",
         "toString", "Exact"};
+    /** What the class uses of the library that rule 4 leaves; what else it uses is to be looked up there first. */
+    private static final Set<String> LIBRARY = Set.of("Math.max", "Math.min", "System.arraycopy");
 
     private static int wrong = 0;
 
@@ -93,8 +96,34 @@ public final class FaceTest {
         }
     }
 
+    /** The face of this test is that of the document, line by line. */
+    private static void document() throws IOException {
+        Set<String> told = new TreeSet<>();
+        Matcher m = Pattern.compile("(?m)^    public int (\\w+)\\(([^)]*)\\);").matcher(Files.readString(DOCUMENT));
+        while (m.find()) {
+            told.add(m.group(1) + (m.group(2).isEmpty() ? 0 : m.group(2).split(",").length));
+        }
+        hold("the document's face: " + told, told.equals(new TreeSet<>(List.of(FACE.split(" ")))));
+    }
+
+    /** Each name with a capital that a point follows is a class of the file, or of the library as told. */
+    private static void library(String text) {
+        Set<String> own = new TreeSet<>();
+        for (Class<?> c : NinthWave.class.getDeclaredClasses()) {
+            own.add(c.getSimpleName());
+        }
+        Matcher m = Pattern.compile("\\b([A-Z]\\w*)\\.(\\w+)").matcher(text);
+        while (m.find()) {
+            boolean isArray = m.group(1).equals(m.group(1).toUpperCase()) && m.group(2).equals("length");
+            hold("rule 4 leaves " + m.group(), isArray || own.contains(m.group(1)) || LIBRARY.contains(m.group()));
+        }
+    }
+
     private static void source() throws IOException {
-        String text = Files.readString(SOURCE).replaceAll("(?s)/\\*.*?\\*/", "").replaceAll("//[^\n]*", "");
+        String whole = Files.readString(SOURCE);
+        hold("all signs are 1 to 127", whole.chars().allMatch(c -> c >= 1 && c <= 127));
+        String text = whole.replaceAll("(?s)/\\*.*?\\*/", "").replaceAll("//[^\n]*", "");
+        library(text);
         for (String word : RULED_OUT) {
             hold("the source has no " + word, !Pattern.compile("\\b" + word + "\\b").matcher(text).find());
         }
@@ -117,6 +146,7 @@ public final class FaceTest {
     }
 
     public static void main(String[] args) throws IOException {
+        document();
         face();
         classes();
         source();
